@@ -390,6 +390,15 @@ public final class ShotBoard {
             return (stepTicks[person] >> tick & 1L) != 0;
         }
 
+        boolean someoneStepsAt(int tick) {
+            for (int p = 0; p < persons; p++) {
+                if (hasStep(p, tick)) {
+                    return true;
+                }
+            }
+            return false;
+        }
+
         int stepsOf(int person) {
             return Long.bitCount(stepTicks[person]);
         }
@@ -538,7 +547,9 @@ public final class ShotBoard {
         /** 100 times the least tick at which the camera fails, and what fails there; 0 if nothing does. */
         int fault(int from, Board board) {
             for (int tick = board.first; tick <= board.last; tick++) {
-                int what = faultAt(from, board, tick);
+                // Where nobody steps, nothing can fail that did not fail at the tick before.
+                boolean isNew = tick == board.first || stage.someoneStepsAt(tick);
+                int what = isNew ? faultAt(from, board, tick) : 0;
                 if (what != 0) {
                     return 100 * tick + what;
                 }

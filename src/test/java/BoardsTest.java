@@ -10,6 +10,8 @@ public final class BoardsTest {
         reasons();
         firstReason();
         leastTick();
+        othersComeBetween();
+        sixInOneBoard();
         longOnes();
         sideWithinLong();
         wrongNumbers();
@@ -103,6 +105,33 @@ public final class BoardsTest {
         whyAndGives(x, "m is back", 0, 5, 0);
         x.step(1, 5, 1310);
         whyAndGives(x, "a step told later hides m", 0, 2, 510);
+    }
+
+    private static void othersComeBetween() {
+        ShotBoard x = new ShotBoard();
+        x.camera(1010, 0);
+        x.person(2010);
+        x.person(1520);
+        x.board(0, 7, 59, 0);
+        whyAndGives(x, "nobody moves", 0, 0, 0);
+        x.step(1, 59, 1510);
+        whyAndGives(x, "one that need not be seen comes between at the last tick", 0, 0, 5910);
+        x.step(1, 33, 1110);
+        whyAndGives(x, "and earlier", 0, 0, 3310);
+    }
+
+    private static void sixInOneBoard() {
+        ShotBoard x = new ShotBoard();
+        x.camera(10, 0);
+        for (int p = 0; p < 6; p++) {
+            x.person(2008 + p);
+        }
+        x.board(2263, 7, 59, 0);
+        whyAndGives(x, "all six, over all ticks", 0, 0, 0);
+        x.step(5, 58, 2009);
+        whyAndGives(x, "the last one comes to the other side", 0, 0, 5840);
+        x.step(5, 57, 2031);
+        whyAndGives(x, "the last one is beyond the cone", 0, 0, 5725);
     }
 
     private static void longOnes() {

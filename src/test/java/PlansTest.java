@@ -21,6 +21,7 @@ public final class PlansTest {
         swingsAndOrder();
         orderOfManyLights();
         crossings();
+        crossingsOfEight();
         crossingsRefused();
         list();
         runAndFrame();
@@ -286,6 +287,28 @@ public final class PlansTest {
         tell(x, 1, 1, 0, 1, 0, 0, 1);
         check.due("after it", x.crossings(), 1);
         crossingsByTheLine();
+    }
+
+    private static void crossingsOfEight() {
+        ShotBoard x = speakers();
+        x.camera(1204, 0);
+        x.camera(1225, 0);
+        for (int b = 0; b < 8; b++) {
+            x.board(1002, ANY, 0, 0);
+        }
+        tell(x, 0, 1, 0, 1, 0, 1, 0, 1);
+        check.due("eight boards, each cut crosses", x.crossings(), 7);
+        tell(x, 1, 1, 1, 1, 1, 1, 1, 1);
+        check.due("eight boards of one camera", x.crossings(), 0);
+        x.drop();
+        tell(x, 1, 1, 1, 1, 1, 1, 0, 1);
+        check.due("eight for seven boards", x.crossings(), STATE);
+        tell(x, 1, 1, 1, 1, 1, 1, 0);
+        check.due("seven boards", x.crossings(), 1);
+        tell(x, 1, 1, 1, 1, 1, 1, 0);
+        x.list(1);
+        x.board(1002, ANY, 0, 0);
+        check.due("the last one again", x.crossings(), 2);
     }
 
     private static void crossingsByTheLine() {

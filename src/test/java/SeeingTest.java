@@ -10,6 +10,7 @@ public final class SeeingTest {
         where();
         hiddenByWalls();
         hiddenByPersons();
+        hiddenAmongSix();
         hiddenByTicks();
         hiddenWrong();
         sees();
@@ -93,6 +94,17 @@ public final class SeeingTest {
         x.person(1609);
         check.due("hidden on a slant", x.hidden(4, 0, 1000), 1);
         check.due("hidden on a slant from next to it", x.hidden(4, 0, 1001), 0);
+    }
+
+    private static void hiddenAmongSix() {
+        ShotBoard x = new ShotBoard();
+        for (int p = 0; p < 6; p++) {
+            x.person(500 + 100 * p);
+        }
+        check.due("the first of six in a row", x.hidden(0, 0, 0), 0);
+        check.due("the last of six in a row", x.hidden(5, 0, 0), 1);
+        check.due("the last of six from the other end", x.hidden(5, 0, 3100), 0);
+        check.due("the fifth behind the sixth", x.hidden(4, 0, 3100), 1);
     }
 
     private static void hiddenByTicks() {
