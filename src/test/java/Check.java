@@ -1,6 +1,11 @@
+import java.util.HashSet;
+import java.util.Set;
+
 /** Counts answers that are not the ones that are due, prints them, and ends a test. */
 final class Check {
     private final String name;
+    private final Set<String> sentences = new HashSet<>();
+    private String sentence = "";
     private int asked;
     private int wrong;
 
@@ -8,11 +13,17 @@ final class Check {
         this.name = name;
     }
 
+    /** What follows tests this sentence of the document; it stands ahead of each wrong answer that is printed. */
+    void on(String promise) {
+        sentence = promise + ": ";
+        sentences.add(promise);
+    }
+
     void due(String call, int got, int want) {
         asked++;
         if (got != want) {
             wrong++;
-            System.out.println(name + ": " + call + " answered " + got + ", due is " + want);
+            System.out.println(name + ": " + sentence + call + " answered " + got + ", due is " + want);
         }
     }
 
@@ -20,7 +31,7 @@ final class Check {
         asked++;
         if (!isSo) {
             wrong++;
-            System.out.println(name + ": " + what);
+            System.out.println(name + ": " + sentence + what);
         }
     }
 
@@ -29,7 +40,8 @@ final class Check {
     }
 
     void end() {
-        System.out.println(name + ": " + asked + " answers, " + wrong + " not as due");
+        String told = sentences.isEmpty() ? "" : sentences.size() + " sentences, ";
+        System.out.println(name + ": " + told + asked + " answers, " + wrong + " not as due");
         if (wrong != 0) {
             System.exit(1);
         }
