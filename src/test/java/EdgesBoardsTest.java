@@ -161,6 +161,15 @@ public final class EdgesBoardsTest {
         whyAndGives(walk(10, 12, 8), "from the line and over", 0, 240);
         whyAndGives(walk(12, 10, 8, 12), "by way of the line, and over back", 0, 340);
         whyAndGives(walk(20, 0), "as far as the cone goes", 0, 140);
+        ShotBoard x = new ShotBoard();
+        x.camera(1010, 0);
+        x.person(1110);
+        x.person(1111);
+        x.step(1, 1, 1109);
+        x.board(2002, ANY, 1, 0);
+        whyAndGives(x, "as near as can be", 0, 140);
+        x.step(0, 1, 1109);
+        whyAndGives(x, "as near as can be, to the line", 0, 0);
     }
 
     private static void promise15WithinIt() {
@@ -186,6 +195,11 @@ public final class EdgesBoardsTest {
         whyAndGives(y, "m goes to the other side of it at tick 1", 1, 140);
         y.step(1, 1, 2015);
         whyAndGives(y, "both go", 1, 0);
+        y.step(1, 2, 2013);
+        y.step(1, 3, 2011);
+        whyAndGives(y, "by way of the line to where m is now, not where it was", 1, 0);
+        y.step(1, 2, 2014);
+        whyAndGives(y, "over the line to where m is now", 1, 340);
     }
 
     private static void promise15LongOnesAlone() {

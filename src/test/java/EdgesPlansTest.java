@@ -14,6 +14,7 @@ public final class EdgesPlansTest {
     public static void main(String[] args) {
         promise19NoBoards();
         promise19NoStrictPlan();
+        promise19NoSide();
         promise19OneAndEight();
         promise19FewestFirst();
         promise19LeastMask();
@@ -97,6 +98,24 @@ public final class EdgesPlansTest {
         check.due("each board is given, but the cut crosses", y.fewest(), NO_PLAN);
         y.camera(HIGH_MIDDLE, 0);
         check.due("a camera on the other side", y.fewest(), 2);
+    }
+
+    private static void promise19NoSide() {
+        check.on("promise 19, a CUT to or from a TWO with SIDE 0 does not CROSS");
+        ShotBoard x = Sets.speakers();
+        x.step(1, 1, 1010);
+        x.camera(LOW_MIDDLE, 0);
+        x.camera(HIGH_WIDE, 0);
+        x.board(1002, MIDDLE, 0, 0);
+        x.board(1002, ANY, 101, 0);
+        x.board(1002, WIDE, 0, 0);
+        check.due("side(1, 1)", x.side(1, 1), 0);
+        plans("from -1 by way of 0 to 1", x, 2, 0, 0, 1);
+        x.drop();
+        x.board(1101, WIDE, 101, 0);
+        plans("from 0 to 0", x, 2, 0, 0, 1);
+        x.step(1, 1, 1410);
+        plans("they no longer stand in one place", x, NO_PLAN, NO_PLAN, NO_PLAN, NO_PLAN);
     }
 
     private static void promise19OneAndEight() {

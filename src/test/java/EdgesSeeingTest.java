@@ -211,6 +211,8 @@ public final class EdgesSeeingTest {
         personHides(0, 3131, 101, 1);
         personHides(31, 3100, 3001, 1);
         personHides(610, 710, 610, 0);
+        personHides(610, 810, 710, 1);
+        personHides(812, 610, 711, 1);
     }
 
     private static void promise11EachOfSixPersons() {
