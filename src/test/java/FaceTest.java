@@ -4,19 +4,17 @@ import java.lang.reflect.Method;
 import java.lang.reflect.Modifier;
 import java.nio.file.Files;
 import java.nio.file.Path;
+import java.util.ArrayList;
+import java.util.List;
 import java.util.Set;
 import java.util.TreeSet;
-import java.util.regex.Matcher;
-import java.util.regex.Pattern;
 
-/** The public face is the document's and nothing more, and the source keeps away from what LANGUAGE.md bars. */
+/** The public face is the document's, line by line, and nothing more. */
 public final class FaceTest {
     private static final Set<String> METHODS = Set.of("person/1", "step/3", "wall/2", "open/0", "camera/2", "board/4",
         "drop/0", "rate/1", "where/2", "hidden/3", "sees/4", "size/3", "views/2", "gives/2", "why/2", "side/2",
         "length/1", "fewest/0", "plan/1", "swings/0", "order/1", "crossings/0", "list/1", "run/0", "frame/1",
         "count/1");
-    private static final String BARRED = "\\b(throw|try|catch|synchronized|assert|import|package|protected|Object"
-        + "|double|float|System|Thread|Random|\\w+Exact|hashCode|toString|equals)\\b|->|::";
     private static final Check check = new Check("FaceTest");
 
     private FaceTest() {
@@ -25,11 +23,14 @@ public final class FaceTest {
     public static void main(String[] args) throws Exception {
         check.holds("the class is public and final",
             Modifier.isPublic(ShotBoard.class.getModifiers()) && Modifier.isFinal(ShotBoard.class.getModifiers()));
+        check.holds("the class has no package", ShotBoard.class.getPackageName().isEmpty());
+        check.holds("the class stands by itself", ShotBoard.class.getSuperclass() == Object.class
+            && ShotBoard.class.getInterfaces().length == 0);
         constants();
         methods();
         constructors();
         classesInside();
-        source();
+        linesOfTheDocument();
         check.end();
     }
 
@@ -41,9 +42,9 @@ public final class FaceTest {
         for (Field field : ShotBoard.class.getDeclaredFields()) {
             if (!Modifier.isPrivate(field.getModifiers())) {
                 open.add(field.getName());
-            }
-            if (Modifier.isStatic(field.getModifiers())) {
-                check.holds(field + " is final", Modifier.isFinal(field.getModifiers()));
+                check.due(field + ": public, static and final", field.getModifiers(),
+                    Modifier.PUBLIC | Modifier.STATIC | Modifier.FINAL);
+                check.holds(field + " is an int", field.getType() == int.class);
             }
         }
         check.holds("open fields: " + open, open.equals(Set.of("NONE", "FULL", "STATE")));
@@ -51,16 +52,13 @@ public final class FaceTest {
 
     private static void methods() {
         Set<String> open = new TreeSet<>();
-        Set<String> names = new TreeSet<>();
-        for (String method : METHODS) {
-            names.add(method.substring(0, method.indexOf('/')));
-        }
         for (Method method : ShotBoard.class.getDeclaredMethods()) {
-            if (Modifier.isPrivate(method.getModifiers())) {
-                check.holds(method + " bears a public name", !names.contains(method.getName()));
-            } else {
-                check.holds(method + " is public", Modifier.isPublic(method.getModifiers()));
+            if (!Modifier.isPrivate(method.getModifiers())) {
+                check.due(method + ": public and nothing else", method.getModifiers(), Modifier.PUBLIC);
                 check.holds(method + " answers an int", method.getReturnType() == int.class);
+                for (Class<?> type : method.getParameterTypes()) {
+                    check.holds(method + " takes ints", type == int.class);
+                }
                 open.add(method.getName() + "/" + method.getParameterCount());
             }
         }
@@ -75,22 +73,28 @@ public final class FaceTest {
     }
 
     private static void classesInside() {
-        Class<?>[] inside = ShotBoard.class.getDeclaredClasses();
-        check.holds("at most twelve classes", inside.length <= 12);
-        for (Class<?> one : inside) {
+        for (Class<?> one : ShotBoard.class.getDeclaredClasses()) {
             int is = one.getModifiers();
-            check.holds(one + " is static and not public", Modifier.isStatic(is) && !Modifier.isPublic(is));
-            check.holds(one + " has at most twenty fields", one.getDeclaredFields().length <= 20);
+            check.holds(one + " is static and not public",
+                Modifier.isStatic(is) && !Modifier.isPublic(is) && !Modifier.isProtected(is));
         }
     }
 
-    private static void source() throws Exception {
-        String text = Files.readString(Path.of("src/main/java/ShotBoard.java"));
-        String code = text.replaceAll("(?s)/\\*.*?\\*/", "").replaceAll("//[^\n]*", "");
-        Matcher found = Pattern.compile(BARRED).matcher(code);
-        while (found.find()) {
-            check.holds("the source has: " + found.group(), false);
+    /** Each line of the document's face stands in the source, and each public line of the source in the document. */
+    private static void linesOfTheDocument() throws Exception {
+        List<String> document = publicLines(Files.readString(Path.of("../shared/DOC.md")));
+        List<String> source = publicLines(Files.readString(Path.of("src/main/java/ShotBoard.java")));
+        check.due("lines of the document's face", document.size(), 2 + 1 + METHODS.size());
+        check.holds("the source's face: " + source, source.equals(document));
+    }
+
+    private static List<String> publicLines(String text) {
+        List<String> lines = new ArrayList<>();
+        for (String line : text.split("\n")) {
+            if (line.strip().startsWith("public ")) {
+                lines.add(line.strip().replaceAll("( \\{|;)$", ""));
+            }
         }
-        check.holds("the source has signs beyond 127", code.chars().allMatch(c -> c < 128));
+        return lines;
     }
 }
